@@ -36,6 +36,7 @@ public final class WrestleBookPromises {
         foresee();
         mean();
         digest();
+        fullBook();
         System.out.println(wrong == 0 ? checks + " checks hold" : wrong + " of " + checks + " checks fail");
         if (wrong != 0) {
             System.exit(1);
@@ -189,6 +190,10 @@ public final class WrestleBookPromises {
         due("400 is expected", even.expected(1, 0), 400);
         even.bout(1, 0, WINS);
         due("400 is no upset", even.count(3), 0);
+        even.rate(0, 1072);
+        even.rate(1, 1000);
+        even.bout(0, 1, LOSES);
+        due("nor if b wins", even.count(3), 0);
 
         WrestleBook close = rated(1073, 1000);
         due("398 is expected", close.expected(1, 0), 398);
@@ -415,6 +420,7 @@ public final class WrestleBookPromises {
         due("lowest of one", high.count(8), 3000);
         WrestleBook low = rated(100);
         due("highest of one", low.count(7), 100);
+        due("lowest, the first one", rated(900, 1000).count(8), 900);
         for (int what : new int[] {-1, 9, Integer.MIN_VALUE, Integer.MAX_VALUE}) {
             dueThrow("count(" + what + ")", book, INDEX, () -> book.count(what));
         }
@@ -432,6 +438,12 @@ public final class WrestleBookPromises {
             due("would(1, 0, " + row[0] + ", 1)", book.would(1, 0, 2 - row[0], 1), row[1]);
         }
         due("would changes nothing", book.digest(), before);
+        // 526 is expected: 40 * 474 is 18960, and 40 * -526 is -21040.
+        WrestleBook near = rated(1019, 1000);
+        due("18.96 is cut", near.would(0, 1, WINS, 0), 18);
+        due("-18.96 is cut", near.would(0, 1, WINS, 1), -18);
+        due("-21.04 is cut", near.would(0, 1, LOSES, 0), -21);
+        due("-1.04 is cut", near.would(0, 1, EVEN, 0), -1);
         WrestleBook bounds = rated(2990, 105);
         due("would hold at 3000", bounds.would(0, 1, WINS, 0), 0);
         bounds.rate(1, 2990);
@@ -499,6 +511,9 @@ public final class WrestleBookPromises {
         due("the smallest number of several", book.match(0), 1);
         due("as high as another", book.match(3), 1);
         due("seen from below", book.match(2), 0);
+        book.rate(1, 900);
+        due("100 below is as even as 100 above", book.match(0), 1);
+        book.rate(1, 1100);
         due("alone in the league", book.match(4), -1);
         book.rate(0, 3000);
         due("from 800 apart on all are as even", book.match(0), 1);
@@ -526,6 +541,11 @@ public final class WrestleBookPromises {
         due("both added: 1 is fewer than 2", book.next(), 2 * 12 + 3);
         book.end();
         due("bouts of the season alone", book.next(), 2 * 12 + 3);
+
+        WrestleBook pairs = leagues(0, 0, 1, 1);
+        pairs.rate(1, 1100);
+        pairs.rate(2, 1100);
+        due("100 below is as even as 100 above", pairs.next(), 1);
 
         WrestleBook three = rated(1000, 1000, 1000);
         due("smallest second number", three.next(), 1);
@@ -631,6 +651,33 @@ public final class WrestleBookPromises {
             }
         }
         return d * 31 + book.next();
+    }
+
+    // ---- all of them, with all the wrestlers that a book holds
+
+    private static void fullBook() {
+        WrestleBook book = fullOf2600();
+        due("full: foresee(40)", book.foresee(40), foreseenByHand(fullOf2600(), 40));
+        due("full: bout(11, 10, 0)", book.bout(11, 10, LOSES), -39);
+        due("full: would(11, 10, 2, 1)", book.would(11, 10, WINS, 1), 0);
+        due("full: at(0, 12)", book.at(0, 12), 9);
+        due("full: at(0, 2)", book.at(0, 2), 11);
+        due("full: match(11)", book.match(11), 0);
+        due("full: match(9)", book.match(9), 0);
+        due("full: chance(10, 11, 9)", book.chance(10, 11, 9), 0);
+        due("full: next()", book.next(), 1);
+        due("full: end()", book.end(), 0);
+        due("full: told(11, 0)", book.told(11, 0), 2561 - 195);
+        due("full: count(7)", book.count(7), 2366);
+        due("full: count(8)", book.count(8), 1000);
+        dueDouble("full: mean()", book.mean(), (10 * 1000 + 1035 + 2366) / 12.0);
+        due("full: digest()", book.digest(), digestByHand(book));
+    }
+
+    private static WrestleBook fullOf2600() {
+        WrestleBook book = leagues(0, 0, 0, 0, 0, 0, 0, 0, 0, 0, 0, 0);
+        book.rate(11, 2600);
+        return book;
     }
 
     // ---- what the tests share
